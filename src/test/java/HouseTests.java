@@ -51,7 +51,7 @@ public final class HouseTests {
     }
 
     private static void promise42Words() {
-        for (String other : new String[] {"l", "lif", "lifts", "liftx", "xlift", "tfil", "sea", "seals", "voi", "voids", "aaaaaa"}) {
+        for (String other : new String[] {"l", "lif", "lifts", "liftx", "xlift", "gift", "loft", "lint", "lifx", "tfil", "sea", "seals", "voi", "voids", "aaaaaa"}) {
             Nomdeplume x = Houses.town();
             x.grant(0, 'f', 1, 9);
             C.is("42 " + other, false, Houses.rule(x, 0, other));
@@ -91,6 +91,15 @@ public final class HouseTests {
         C.is("42 another work", 4, x.tell(1, 2, 1, 0, true));
         C.is("42 a hand tells on", 5, x.tell(2, 1, 0, 0, false));
         C.is("42 free again", 6, x.tell(1, 2, 0, 0, true));
+        Nomdeplume y = Houses.town();
+        for (int i = 0; i < 3; i += 2) {
+            y.tell(1, i, 2, 1, false);
+        }
+        Houses.rule(y, 2, "seal");
+        for (int i = 0; i < 3; i += 2) {
+            int listener = i;
+            C.is("42 bound all the same " + i, "throws." + UNSUPPORTED.getName(), Checks.answer(y, h -> h.tell(listener, 1, 2, 1, true)));
+        }
     }
 
     private static void promise42Void() {
@@ -149,16 +158,18 @@ public final class HouseTests {
     private static void promise45Checksum() {
         Nomdeplume x = Houses.town();
         x.advance(0, 500);
+        x.advance(1, 21);
         x.review(1, -4);
         x.earn(2, 77);
+        x.advance(1, 11);
         x.die(2);
-        x.give(1, 0, 2 - 1, 60);
+        x.give(1, 0, 1, 60);
         Houses.rule(x, 1, "lift");
         x.earn(0, 600);
         x.pass(9);
         long[] parts = {
-            600, 77, 0, 0,
-            0, 0, 0, 1, 0, -4, -1, 0, 0,
+            600, 88, 0, 0,
+            0, 0, 0, 1, 11, -4, -1, 0, 0,
             0, 0, 4, 1, 1, 2, 1, 0, 4,
             0, 9};
         C.is("45 checksum", sumOf(parts), x.checksum());

@@ -133,6 +133,11 @@ public final class LinkTests {
         Nomdeplume other = told(false);
         other.tell(0, 1, 1, 0, true);
         C.is("16 free of another work", "throws." + UNSUPPORTED.getName(), Checks.answer(other, h -> h.tell(1, 2, 1, 0, true)));
+        Nomdeplume two = told(false);
+        two.tell(0, 2, 0, 0, false);
+        C.is("16 two listeners know", true, two.knows(1, 0, 0) && two.knows(2, 0, 0));
+        C.is("16 the first tells on", 3, Checks.answer(two, onward));
+        C.is("16 the second, too", 4, two.tell(2, 1, 0, 0, false));
         Nomdeplume second = told(false);
         second.give(0, 0, 2, 1);
         second.tell(0, 1, 0, 2, true);

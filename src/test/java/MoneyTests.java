@@ -233,6 +233,10 @@ public final class MoneyTests {
         x.earn(0, 100);
         C.is("34 who gave all away gets none", 55, x.purse(0));
         C.is("34 67 of 100", 100002 + 67, x.purse(1));
+        x.give(2, 1, 0, 40);
+        x.earn(2, 9);
+        C.is("34 the lowest person is not the first hand", 55 + 3, x.purse(0));
+        C.is("34 who is one", 100002 + 67 + 6, x.purse(1));
     }
 
     private static long payOther() {
@@ -316,7 +320,7 @@ public final class MoneyTests {
         C.is("37 who had some", 100299, x.audit(2, 0));
         Houses.rule(x, 2, "lift");
         C.is("37 lifted, no hand", "throws." + UNSUPPORTED.getName(), Checks.answer(x, h -> h.audit(0, 2)));
-        x.tell(0, 3 - 1, 1, 0, false);
+        x.tell(0, 2, 1, 0, false);
         C.is("37 told, no hand", "throws." + UNSUPPORTED.getName(), Checks.answer(x, h -> h.audit(2, 1)));
         C.refused("37 no such asker", Houses::town, INDEX, h -> h.audit(4, 0));
         C.refused("37 asker -1", Houses::town, INDEX, h -> h.audit(-1, 0));

@@ -15,9 +15,10 @@ public final class SoundnessTests {
         C.is("one cent more was advanced", false, spoiled("advancedCents", 1));
         C.is("one cent more was paid back", false, spoiled("paidBackCents", 1));
         C.is("a purse has one cent more", false, spoiledPurse());
-        C.is("a share too many", false, spoiledWork("parts", 1));
-        C.is("a share too few", false, spoiledWork("parts", -1));
-        C.is("somebody was told of who is no hand", false, spoiledWork("told", 1));
+        C.is("a share too many", false, spoiledWork(0, "parts", 2, 1));
+        C.is("a share too few", false, spoiledWork(0, "parts", 2, -1));
+        C.is("somebody was told of who is no hand", false, spoiledWork(0, "told", 2, 1));
+        C.is("somebody was told of the first person, who is no hand", false, spoiledWork(2, "told", 0, 1));
         C.close("SoundnessTests");
     }
 
@@ -47,12 +48,12 @@ public final class SoundnessTests {
         return x.isSound();
     }
 
-    /** Person 2 is no hand of work 0. */
-    private static boolean spoiledWork(String field, int more) throws ReflectiveOperationException {
+    /** Person 2 is no hand of work 0, nor person 0 of work 2. */
+    private static boolean spoiledWork(int number, String field, int person, int more) throws ReflectiveOperationException {
         Nomdeplume x = house();
-        Object work = Array.get(open(x, "works").get(x), 0);
+        Object work = Array.get(open(x, "works").get(x), number);
         int[] row = (int[]) open(work, field).get(work);
-        row[2] += more;
+        row[person] += more;
         return x.isSound();
     }
 

@@ -161,9 +161,15 @@ public final class StyleTests {
         y.publish(1);
         Houses.rule(y, 1, "lift");
         C.is("27 a true hand may be ruled out", false, y.isPossible(0, 0));
-        y.give(1, 0, 3 - 1, 100);
+        y.give(1, 0, 2, 100);
         C.is("27 who gave all away stays a hand", false, y.isPossible(0, 0));
         C.is("27 the new hand, too", false, y.isPossible(0, 2));
+        Nomdeplume z = Houses.town();
+        z.write(0, 0, 99);
+        z.publish(0);
+        z.publish(2);
+        Houses.rule(z, 0, "lift");
+        C.is("27 the first work counts, too", false, z.isPossible(2, 0));
     }
 
     private static void promise27Refused() {
