@@ -31,11 +31,27 @@ final class Checks {
         }
     }
 
-    /** The call throws just this, and leaves a house in which no later call answers otherwise. */
+    /**
+     * The call throws just this, and leaves a house in which no later call answers otherwise. The
+     * snapshot sees what no probe can: a probe has no calls left for all of a full house.
+     */
     void refused(String what, Plan plan, Class<?> due, Call call) {
         Nomdeplume asked = plan.build();
-        is(what, "throws." + due.getName(), answer(asked, call));
+        String before = Snapshot.of(asked);
+        is(what, thrown(due), answer(asked, call));
+        is(what + ", no field changed", before, Snapshot.of(asked));
         is(what + ", nothing changed", Probe.of(plan.build()), Probe.of(asked));
+    }
+
+    /** On a house that goes on: the call throws just this, and no field changes. */
+    void throwsHere(String what, Nomdeplume house, Class<?> due, Call call) {
+        String before = Snapshot.of(house);
+        is(what, thrown(due), answer(house, call));
+        is(what + ", no field changed", before, Snapshot.of(house));
+    }
+
+    static String thrown(Class<?> due) {
+        return "throws." + due.getName();
     }
 
     int failed() {

@@ -45,4 +45,48 @@ final class Houses {
         }
         return x;
     }
+
+    /**
+     * As many persons, names and works as there may be: person i owns name i, and works i and i + 8 are
+     * signed by that name and that person. Nobody has an heir, and nothing else happened.
+     */
+    static Nomdeplume wide() {
+        Nomdeplume x = named();
+        for (int i = 0; i < 16; i++) {
+            x.sign(i % 8, i % 8);
+        }
+        return x;
+    }
+
+    /** Eight persons, each of whom owns the name of the same number. */
+    static Nomdeplume named() {
+        Nomdeplume x = people(8);
+        for (int i = 0; i < 8; i++) {
+            x.name(i);
+        }
+        return x;
+    }
+
+    /** The wide house, with 20 licences, 60 links told and 6 letters typed, too. */
+    static Nomdeplume full() {
+        Nomdeplume x = wide();
+        for (int i = 0; i < 20; i++) {
+            x.license(i % 8, (i + 1) % 8, 0, i, false);
+        }
+        for (int i = 0; i < 60; i++) {
+            x.tell(i % 8, (i + 1) % 8, i % 16, i % 8, i % 3 == 0);
+        }
+        for (char letter : "veiled".toCharArray()) {
+            x.type(letter);
+        }
+        return x;
+    }
+
+    /** Lets any number of years go by, 50 at most at a time. */
+    static Nomdeplume pass(Nomdeplume x, int years) {
+        for (int left = years; left > 0; left -= 50) {
+            x.pass(Math.min(left, 50));
+        }
+        return x;
+    }
 }

@@ -72,6 +72,16 @@ public final class LicenceTests {
 
     private static void promise9Order() {
         C.refused("9 index before range", Houses::town, INDEX, h -> h.license(0, 9, 5, 4, false));
+        C.refused("9 no such name before range", Houses::town, INDEX, h -> h.license(3, 1, 5, 4, false));
+        C.refused("9 index before nobody", Houses::town, INDEX, h -> h.license(2, 4, 0, 1, false));
+        C.refused("9 index before death", Houses::town, INDEX, h -> h.license(3, 3, 0, 1, false));
+        C.refused("9 no such name before 20", LicenceTests::twenty, INDEX, h -> h.license(3, 1, 0, 0, false));
+        C.refused("9 no such person before 20", LicenceTests::twenty, INDEX, h -> h.license(0, 4, 0, 0, false));
+        C.refused("9 range before nobody", Houses::town, ARGUMENT, h -> h.license(2, 1, 5, 4, false));
+        C.refused("9 range before death", Houses::town, ARGUMENT, h -> h.license(0, 3, -1, 4, false));
+        C.refused("9 range before overlap", () -> withLicence(true), ARGUMENT, h -> h.license(0, 2, 10, 501, false));
+        C.refused("9 nobody before 20", LicenceTests::twenty, UNSUPPORTED, h -> h.license(2, 1, 0, 0, false));
+        C.refused("9 death before 20", LicenceTests::twenty, UNSUPPORTED, h -> h.license(0, 3, 0, 0, false));
         C.refused("9 range before owner", Houses::town, ARGUMENT, h -> h.license(0, 0, 5, 4, false));
         C.refused("9 owner before 20", LicenceTests::twenty, UNSUPPORTED, h -> h.license(0, 0, 0, 0, false));
         C.refused("9 overlap before 20", LicenceTests::twenty, UNSUPPORTED, h -> h.license(0, 2, 0, 0, true));
@@ -164,6 +174,7 @@ public final class LicenceTests {
         C.refused("11 a 17th", () -> Houses.shelf(2, 16), STATE, h -> h.sign(0, 0));
         C.refused("11 a 17th that cannot be", () -> Houses.shelf(2, 16), UNSUPPORTED, h -> h.sign(0, 1));
         C.refused("11 a 17th by no name", () -> Houses.shelf(2, 16), INDEX, h -> h.sign(1, 0));
+        C.refused("11 a 17th by nobody", () -> Houses.shelf(2, 16), INDEX, h -> h.sign(0, 2));
         C.is("11 the 16th", 15, Houses.shelf(1, 15).sign(0, 0));
     }
 

@@ -51,6 +51,11 @@ public final class LinkTests {
         C.refused("13 below none", Houses::town, ARGUMENT, h -> h.give(0, 0, 1, -1));
         C.refused("13 above all", Houses::town, ARGUMENT, h -> h.give(0, 0, 1, 101));
         C.refused("13 range before death", Houses::town, ARGUMENT, h -> h.give(0, 0, 3, 101));
+        C.refused("13 range before fewer", LinkTests::shared, ARGUMENT, h -> h.give(0, 1, 0, 101));
+        C.refused("13 no such taker before death", Houses::town, INDEX, h -> h.give(0, 3, 4, 1));
+        C.refused("13 no such giver before death", Houses::town, INDEX, h -> h.give(0, 4, 3, 1));
+        C.refused("13 no such work before death", Houses::town, INDEX, h -> h.give(3, 0, 3, 1));
+        C.refused("13 no such work before the same", Houses::town, INDEX, h -> h.give(3, 0, 0, 1));
         C.refused("13 the same who has none", Houses::town, ARGUMENT, h -> h.give(0, 3, 3, 1));
         C.refused("13 fewer", LinkTests::shared, UNSUPPORTED, h -> h.give(0, 1, 0, 31));
         C.refused("13 to who died", Houses::town, UNSUPPORTED, h -> h.give(0, 0, 3, 1));
@@ -161,6 +166,11 @@ public final class LinkTests {
         C.refused("16 hand -1", Houses::town, INDEX, h -> h.tell(0, 1, 0, -1, true));
         C.refused("16 work -1", Houses::town, INDEX, h -> h.tell(0, 1, -1, 0, true));
         C.refused("16 index before the same", Houses::town, INDEX, h -> h.tell(0, 0, 3, 0, true));
+        C.refused("16 no such one twice", Houses::town, INDEX, h -> h.tell(4, 4, 0, 0, true));
+        C.refused("16 no such hand before death", Houses::town, INDEX, h -> h.tell(3, 1, 0, 4, true));
+        C.refused("16 no such teller before death", Houses::town, INDEX, h -> h.tell(4, 3, 0, 0, true));
+        C.refused("16 no such listener before death", Houses::town, INDEX, h -> h.tell(3, 4, 0, 0, true));
+        C.refused("16 no such work before what is not known", Houses::town, INDEX, h -> h.tell(1, 2, 3, 0, true));
         C.refused("16 the same", Houses::town, ARGUMENT, h -> h.tell(0, 0, 0, 0, true));
         C.refused("16 the same, who does not know", Houses::town, ARGUMENT, h -> h.tell(3, 3, 0, 0, true));
         C.refused("16 to who died", Houses::town, UNSUPPORTED, h -> h.tell(0, 3, 0, 0, true));
@@ -175,6 +185,11 @@ public final class LinkTests {
         C.refused("16 a 61st to who died", LinkTests::sixty, UNSUPPORTED, h -> h.tell(0, 3, 0, 0, false));
         C.refused("16 a 61st not known", LinkTests::sixty, UNSUPPORTED, h -> h.tell(1, 0, 1, 0, false));
         C.refused("16 a 61st to oneself", LinkTests::sixty, ARGUMENT, h -> h.tell(0, 0, 0, 0, false));
+        C.refused("16 a 61st by who is bound", LinkTests::sixty, UNSUPPORTED, h -> h.tell(1, 2, 0, 0, false));
+        C.refused("16 a 61st by nobody", LinkTests::sixty, INDEX, h -> h.tell(4, 1, 0, 0, false));
+        C.refused("16 a 61st to nobody", LinkTests::sixty, INDEX, h -> h.tell(0, 4, 0, 0, false));
+        C.refused("16 a 61st of no work", LinkTests::sixty, INDEX, h -> h.tell(0, 1, 3, 0, false));
+        C.refused("16 a 61st of nobody", LinkTests::sixty, INDEX, h -> h.tell(0, 1, 0, 4, false));
     }
 
     private static Nomdeplume sixty() {

@@ -40,18 +40,12 @@ public final class MoneyTests {
         C.is("29 signed later, behind", false, x.isProtected(3, 81));
         C.is("29 the year of now", true, x.isProtected(0, 10));
         C.is("29 far off", false, x.isProtected(0, 999));
-        pass(x, 60);
+        Houses.pass(x, 60);
         C.is("29 now in the last year", true, x.isProtected(0, 70));
         x.pass(1);
         C.is("29 now behind it", false, x.isProtected(0, 71));
         x.die(0);
         C.is("29 a death behind a shut veil", false, x.isProtected(0, 71));
-    }
-
-    private static void pass(Nomdeplume x, int years) {
-        for (int left = years; left > 0; left -= 50) {
-            x.pass(Math.min(left, 50));
-        }
     }
 
     private static void promise29LiftedVeil() {
@@ -60,7 +54,7 @@ public final class MoneyTests {
         x.give(0, 1, 2, 1);
         Houses.rule(x, 0, "lift");
         C.is("29 lifted, hands alive", true, x.isProtected(0, 999));
-        pass(x, 100);
+        Houses.pass(x, 100);
         C.is("29 now, hands alive", true, x.isProtected(0, 100));
         x.die(1);
         x.pass(5);
@@ -77,7 +71,7 @@ public final class MoneyTests {
         C.is("29 lifted behind the death", true, y.isProtected(0, 70));
         C.is("29 no longer", false, y.isProtected(0, 71));
         Nomdeplume z = Houses.town();
-        pass(z, 90);
+        Houses.pass(z, 90);
         C.is("29 free", false, z.isProtected(0, 90));
         Houses.rule(z, 0, "lift");
         C.is("29 bound again", true, z.isProtected(0, 90));
@@ -112,7 +106,7 @@ public final class MoneyTests {
 
     private static void promise30Terms() {
         Nomdeplume x = Houses.town();
-        pass(x, 70);
+        Houses.pass(x, 70);
         C.is("30 in the last year of the term", 168, x.grant(0, 'f', 1, 99));
         x.pass(1);
         C.is("30 behind the term", "throws." + UNSUPPORTED.getName(), Checks.answer(x, h -> h.grant(0, 's', 1, 1)));
@@ -140,6 +134,18 @@ public final class MoneyTests {
         C.refused("30 years 0", Houses::town, ARGUMENT, h -> h.grant(0, 'f', 0, 0));
         C.refused("30 years 100", Houses::town, ARGUMENT, h -> h.grant(0, 'f', 0, 100));
         C.refused("30 range before death", Houses::town, ARGUMENT, h -> h.grant(0, 'f', 3, 100));
+        C.refused("30 right before death", Houses::town, ARGUMENT, h -> h.grant(0, 'x', 3, 1));
+        C.refused("30 no such work before right", Houses::town, INDEX, h -> h.grant(3, 'x', 0, 1));
+        C.refused("30 no such work before range", Houses::town, INDEX, h -> h.grant(3, 'f', 0, 100));
+        C.refused("30 no such work before death", Houses::town, INDEX, h -> h.grant(3, 'f', 3, 1));
+        C.refused("30 index before given", MoneyTests::granted, INDEX, h -> h.grant(0, 'f', 4, 1));
+        C.refused("30 range before given", MoneyTests::granted, ARGUMENT, h -> h.grant(0, 'f', 2, 0));
+        C.refused("30 index before the term", MoneyTests::outOfTerm, INDEX, h -> h.grant(0, 'f', 4, 1));
+        C.refused("30 range before the term", MoneyTests::outOfTerm, ARGUMENT, h -> h.grant(0, 'f', 2, 100));
+        C.refused("30 right before the term", MoneyTests::outOfTerm, ARGUMENT, h -> h.grant(0, 'x', 2, 1));
+        C.refused("30 behind the term", MoneyTests::outOfTerm, UNSUPPORTED, h -> h.grant(0, 'f', 2, 1));
+        C.refused("30 index before the first hand", MoneyTests::firstHandDied, INDEX, h -> h.grant(0, 'f', 4, 1));
+        C.refused("30 range before the first hand", MoneyTests::firstHandDied, ARGUMENT, h -> h.grant(0, 'f', 2, 0));
         C.refused("30 to who died", Houses::town, UNSUPPORTED, h -> h.grant(0, 'f', 3, 1));
         C.refused("30 given", MoneyTests::granted, UNSUPPORTED, h -> h.grant(0, 'f', 2, 9));
         C.refused("30 the first hand died", MoneyTests::firstHandDied, UNSUPPORTED, h -> h.grant(0, 'f', 2, 1));
@@ -149,6 +155,10 @@ public final class MoneyTests {
         Nomdeplume x = Houses.town();
         x.grant(0, 'f', 1, 3);
         return x;
+    }
+
+    private static Nomdeplume outOfTerm() {
+        return Houses.pass(Houses.town(), 71);
     }
 
     private static Nomdeplume firstHandDied() {
@@ -326,6 +336,7 @@ public final class MoneyTests {
         C.refused("37 asker -1", Houses::town, INDEX, h -> h.audit(-1, 0));
         C.refused("37 no such work", Houses::town, INDEX, h -> h.audit(0, 3));
         C.refused("37 work -1", Houses::town, INDEX, h -> h.audit(0, -1));
+        C.refused("37 no such asker nor work", Houses::town, INDEX, h -> h.audit(4, 3));
         C.refused("37 no hand", Houses::town, UNSUPPORTED, h -> h.audit(1, 0));
     }
 

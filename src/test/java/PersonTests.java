@@ -143,6 +143,8 @@ public final class PersonTests {
         C.refused("7 to who died", Houses::town, UNSUPPORTED, h -> h.sell(0, 3));
         C.refused("7 to its owner", Houses::town, UNSUPPORTED, h -> h.sell(0, 0));
         C.refused("7 no person for nobody's", Houses::town, INDEX, h -> h.sell(2, 4));
+        C.refused("7 no such name for who died", Houses::town, INDEX, h -> h.sell(3, 3));
+        C.refused("7 nobody's to who died", Houses::town, UNSUPPORTED, h -> h.sell(2, 3));
     }
 
     private static void promise8Owner() {

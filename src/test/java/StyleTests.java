@@ -91,6 +91,9 @@ public final class StyleTests {
         C.refused("24 work -1", Houses::town, INDEX, h -> h.mask(-1, 0, 1));
         C.refused("24 other -1", Houses::town, INDEX, h -> h.mask(0, -1, 1));
         C.refused("24 none twice", Houses::town, INDEX, h -> h.mask(3, 3, 1));
+        C.refused("24 no such work before range", Houses::town, INDEX, h -> h.mask(3, 0, 41));
+        C.refused("24 no such other before range", Houses::town, INDEX, h -> h.mask(0, 3, 0));
+        C.refused("24 no such other before published", StyleTests::published, INDEX, h -> h.mask(0, 3, 1));
         C.refused("24 the same", Houses::town, ARGUMENT, h -> h.mask(0, 0, 1));
         C.refused("24 by 0", Houses::town, ARGUMENT, h -> h.mask(1, 0, 0));
         C.refused("24 by 41", Houses::town, ARGUMENT, h -> h.mask(1, 0, 41));
