@@ -178,7 +178,7 @@ public final class Nomdeplume {
         if (pen == null || who == null) {
             throw new IndexOutOfBoundsException("no such name or person");
         }
-        return who.isLiving() && maySign(name, person);
+        return who.isLiving() && maySign(pen, name, person);
     }
 
     public int sign(int name, int person) throws IndexOutOfBoundsException, UnsupportedOperationException, IllegalStateException {
@@ -187,7 +187,7 @@ public final class Nomdeplume {
         if (pen == null || who == null) {
             throw new IndexOutOfBoundsException("no such name or person");
         }
-        if (!who.isLiving() || !maySign(name, person)) {
+        if (!who.isLiving() || !maySign(pen, name, person)) {
             throw new UnsupportedOperationException("the person cannot sign");
         }
         if (workCount >= MOST_WORKS) {
@@ -423,7 +423,7 @@ public final class Nomdeplume {
         if (text.isGranted(index, now) || !isCovered(text, now)) {
             throw new UnsupportedOperationException("it is given, or the work is not protected");
         }
-        if (!taker.isLiving() || !persons[text.leader()].isLiving()) {
+        if (!taker.isLiving() || !isLivingAt(text.leader())) {
             throw new UnsupportedOperationException("the person or the first hand died");
         }
         text.rightHolders[index] = person;
@@ -475,7 +475,8 @@ public final class Nomdeplume {
 
     public long earn(int work, int cents) throws IndexOutOfBoundsException, IllegalArgumentException {
         Work text = workAt(work);
-        if (text == null) {
+        Pen pen = text == null ? null : penAt(text.pen);
+        if (text == null || pen == null) {
             throw new IndexOutOfBoundsException("no such work");
         }
         if (cents < 1 || cents > MOST_CENTS) {
@@ -483,7 +484,7 @@ public final class Nomdeplume {
         }
         text.earned += cents;
         earnedCents += cents;
-        long rest = cents - payBack(pens[text.pen], cents);
+        long rest = cents - payBack(pen, cents);
         payOut(text, rest);
         return rest;
     }
@@ -642,11 +643,12 @@ public final class Nomdeplume {
     }
 
     public boolean isSound() {
-        boolean isSound = isMoneyWhole();
         for (int i = 0; i < workCount; i++) {
-            isSound &= works[i].isWhole() && works[i].isToldTruly() && areHandsPossible(works[i]);
+            if (!works[i].isWhole() || !works[i].isToldTruly() || !areHandsPossible(works[i])) {
+                return false;
+            }
         }
-        return isSound;
+        return isMoneyWhole();
     }
 
     // Who stands behind a number: null if there is none.
@@ -675,9 +677,18 @@ public final class Nomdeplume {
 
     // Heirs and money.
 
+    private boolean isLivingAt(int number) {
+        Person who = personAt(number);
+        return who != null && who.isLiving();
+    }
+
     private int livingHeirOf(Person who) {
-        Person heir = personAt(who.heir);
-        return heir != null && heir.isLiving() ? who.heir : NOBODY;
+        return isLivingAt(who.heir) ? who.heir : NOBODY;
+    }
+
+    /** Who is paid in somebody's place: null stands for the treasury. */
+    private Person payeeFor(Person who) {
+        return who == null || who.isLiving() ? who : personAt(livingHeirOf(who));
     }
 
     private int moveNames(int from, int to) {
@@ -692,12 +703,11 @@ public final class Nomdeplume {
     }
 
     private void pay(int person, long cents) {
-        Person who = persons[person];
-        int payee = who.isLiving() ? person : livingHeirOf(who);
-        if (payee == NOBODY) {
+        Person payee = payeeFor(personAt(person));
+        if (payee == null) {
             stateCents += cents;
         } else {
-            persons[payee].cents += cents;
+            payee.cents += cents;
         }
     }
 
@@ -731,18 +741,18 @@ public final class Nomdeplume {
         return false;
     }
 
-    private boolean maySign(int pen, int person) {
+    private boolean maySign(Pen pen, int number, int person) {
         boolean isTaken = false;
         for (int i = 0; i < licenceCount; i++) {
             Licence licence = licences[i];
-            if (licence.pen == pen && licence.from <= now && now <= licence.to) {
+            if (licence.pen == number && licence.from <= now && now <= licence.to) {
                 if (licence.person == person) {
                     return true;
                 }
-                isTaken |= licence.isForOneAlone;
+                isTaken = isTaken || licence.isForOneAlone;
             }
         }
-        return pens[pen].owner == person && !isTaken;
+        return pen.owner == person && !isTaken;
     }
 
     // What the public holds possible.

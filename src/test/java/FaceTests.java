@@ -20,7 +20,7 @@ public final class FaceTests {
     private static final List<String> FORBIDDEN = List.of(
         "->", "::", "\\bsynchronized\\b", "\\bassert\\b", "\\bfinally\\b", "\\bcatch\\b", "\\btry\\b", "\\bprotected\\b",
         "\\bstatic\\s*\\{", "\\bSystem\\b", "\\bequals\\b", "\\bhashCode\\b", "\\btoString\\b", "Exact\\b", "\\bvolatile\\b",
-        "\\bObject\\b", "\\bextends\\b", "\\bsuper\\b", "[^\\x00-\\x7f]");
+        "\\bObject\\b", "\\bextends\\b", "\\bsuper\\b", "[^\\x00-\\x7f]", "\\bis\\w* *[&|^]=");
 
     public static void main(String[] args) throws IOException {
         List<String> doc = Files.readAllLines(Path.of(args[0]), StandardCharsets.UTF_8);
