@@ -72,7 +72,9 @@ public final class TermsTests {
         for (int i = 0; i < 5; i++) {
             told.append(x.ask(asker, 0, i)).append(x.isPossible(0, i));
             if (asker != PUBLIC) {
-                told.append(x.suspects(asker, 0, i));
+                int hand = i;
+                told.append(x.suspects(asker, 0, i)).append(x.knows(asker, 0, i));
+                told.append(Checks.answer(x, h -> h.tell(asker, (asker + 1) % 5, 0, hand, true)));
             }
         }
         told.append(Checks.answer(x, h -> h.audit(asker, 0)));
